@@ -1,4 +1,3 @@
-import java.io.ByteArrayOutputStream;
 import java.math.BigInteger;
 import java.security.GeneralSecurityException;
 import java.security.MessageDigest;
@@ -25,6 +24,8 @@ final class PlainSlh {
     final int p;
     final int signature;
     private final boolean shake;
+    private final MessageDigest sha256 = library("SHA-256");
+    private final MessageDigest sha512 = library("SHA-512");
     private byte[] secretSeed = {};
     private byte[] publicSeed = {};
 
@@ -65,13 +66,18 @@ final class PlainSlh {
         return how == 0 ? join(new byte[] {0, (byte) context.length}, context, message) : message;
     }
 
+    /** The R of a signature of x; r none is the public seed. */
+    byte[] salt(byte[] secret, byte[] x, byte[] r) {
+        byte[] prf = Arrays.copyOfRange(secret, n, 2 * n);
+        return randomizer(prf, r.length == 0 ? Arrays.copyOfRange(secret, 2 * n, 3 * n) : r, x);
+    }
+
     /** The signature of x; r none is the public seed. */
     byte[] sign(byte[] secret, byte[] x, byte[] r) {
         secretSeed = Arrays.copyOf(secret, n);
         publicSeed = Arrays.copyOfRange(secret, 2 * n, 3 * n);
-        byte[] prf = Arrays.copyOfRange(secret, n, 2 * n);
         byte[] root = Arrays.copyOfRange(secret, 3 * n, 4 * n);
-        byte[] salt = randomizer(prf, r.length == 0 ? publicSeed : r, x);
+        byte[] salt = salt(secret, x, r);
         Choice c = new Choice(digest(salt, root, x));
         byte[] all = salt;
         byte[] part = forestSign(c);
@@ -281,28 +287,43 @@ final class PlainSlh {
     }
 
     static byte[] join(byte[]... parts) {
-        ByteArrayOutputStream all = new ByteArrayOutputStream();
+        int size = 0;
         for (byte[] part : parts) {
-            all.writeBytes(part);
+            size += part.length;
         }
-        return all.toByteArray();
-    }
-
-    private static byte[] be(long v, int count) {
-        return be(BigInteger.valueOf(v), count);
-    }
-
-    private static byte[] be(BigInteger v, int count) {
-        byte[] all = new byte[count];
-        for (int j = 0; j < count; j++) {
-            all[j] = v.shiftRight(8 * (count - 1 - j)).byteValue();
+        byte[] all = new byte[size];
+        int at = 0;
+        for (byte[] part : parts) {
+            System.arraycopy(part, 0, all, at, part.length);
+            at += part.length;
         }
         return all;
     }
 
-    private static byte[] hash(boolean wide, byte[] x) {
+    private static byte[] be(int v, int count) {
+        byte[] all = new byte[count];
+        for (int j = 0; j < count; j++) {
+            all[count - 1 - j] = (byte) (v >>> (8 * j));
+        }
+        return all;
+    }
+
+    private static byte[] be(BigInteger v, int count) {
+        byte[] digits = v.toByteArray();
+        byte[] all = new byte[count];
+        for (int j = 0; j < Math.min(count, digits.length); j++) {
+            all[count - 1 - j] = digits[digits.length - 1 - j];
+        }
+        return all;
+    }
+
+    private byte[] hash(boolean wide, byte[] x) {
+        return (wide ? sha512 : sha256).digest(x);
+    }
+
+    private static MessageDigest library(String name) {
         try {
-            return MessageDigest.getInstance(wide ? "SHA-512" : "SHA-256").digest(x);
+            return MessageDigest.getInstance(name);
         } catch (GeneralSecurityException e) {
             throw new IllegalStateException(e);
         }
@@ -360,21 +381,23 @@ final class PlainSlh {
     }
 
     private static void permute(long[][] lanes) {
+        long[] c = new long[5];
+        long[][] b = new long[5][5];
         for (int round = 0; round < 24; round++) {
-            long[] c = new long[5];
-            long[][] b = new long[5][5];
             for (int x = 0; x < 5; x++) {
                 c[x] = lanes[x][0] ^ lanes[x][1] ^ lanes[x][2] ^ lanes[x][3] ^ lanes[x][4];
             }
             for (int x = 0; x < 5; x++) {
+                long change = c[(x + 4) % 5] ^ Long.rotateLeft(c[(x + 1) % 5], 1);
                 for (int y = 0; y < 5; y++) {
-                    long lane = lanes[x][y] ^ c[(x + 4) % 5] ^ Long.rotateLeft(c[(x + 1) % 5], 1);
-                    b[y][(2 * x + 3 * y) % 5] = Long.rotateLeft(lane, TURNS[x][y]);
+                    b[y][(2 * x + 3 * y) % 5] = Long.rotateLeft(lanes[x][y] ^ change, TURNS[x][y]);
                 }
             }
             for (int x = 0; x < 5; x++) {
+                long[] next = b[(x + 1) % 5];
+                long[] second = b[(x + 2) % 5];
                 for (int y = 0; y < 5; y++) {
-                    lanes[x][y] = b[x][y] ^ (~b[(x + 1) % 5][y] & b[(x + 2) % 5][y]);
+                    lanes[x][y] = b[x][y] ^ (~next[y] & second[y]);
                 }
             }
             lanes[0][0] ^= ROUNDS[round];

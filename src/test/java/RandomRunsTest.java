@@ -3,12 +3,13 @@ import java.util.Random;
 import java.util.function.LongSupplier;
 
 /**
- * Runs of 512 calls with numbers in and out of range, each answer held against a plain model of the
- * document. The numbers come from fixed seeds, so that every run is the same each time.
+ * Runs of calls with numbers in and out of range, each answer held against a plain model of the
+ * document. The numbers come from fixed seeds, so that every run is the same each time; what a run
+ * asks and what is looked at behind it are together no more than the 512 calls of the document.
  */
 public final class RandomRunsTest {
-    private static final int RUNS = 60;
-    private static final int CALLS = 512;
+    private static final int RUNS = 120;
+    private static final int CALLS = 250;
     private static final int MOST = 65536;
 
     private final Random random;
@@ -33,7 +34,7 @@ public final class RandomRunsTest {
             one("run " + run + ", call " + call + ": ");
         }
         for (int slot = 0; slot < 8; slot++) {
-            int apart = Math.max(8, slots[slot].length / 50);
+            int apart = Math.max(8, slots[slot].length / 20);
             Check.holdsSome("run " + run + ", slot " + slot, x, slot, slots[slot], apart, 0);
         }
     }
@@ -59,8 +60,13 @@ public final class RandomRunsTest {
             case 7 -> held(at + "word " + slot + " " + place, () -> x.word(slot, place), () -> word(slot, place));
             case 8 -> held(at + "same " + slot + " " + other, () -> x.same(slot, other) ? 1 : 0,
                     () -> same(slot, other));
-            case 9 -> held(at + "slhVerify " + set + " " + how, () -> x.slhVerify(set, how) ? 1 : 0,
-                    () -> verify(set, how));
+            case 9 -> {
+                if (random.nextInt(4) == 0) {
+                    readyToVerify(at, set);
+                }
+                held(at + "slhVerify " + set + " " + how, () -> x.slhVerify(set, how) ? 1 : 0,
+                        () -> verify(set, how));
+            }
             case 10 -> signOrKeys(at, set, how);
             default -> node(at, set);
         }
@@ -180,6 +186,17 @@ public final class RandomRunsTest {
     private void supported(boolean right) {
         if (!right) {
             throw new UnsupportedOperationException();
+        }
+    }
+
+    /** Gives PUBLIC and PACKET the lengths of a set, which they rarely have by chance. */
+    private void readyToVerify(String at, int set) {
+        if (set >= 0 && set < 12) {
+            PlainSlh plain = plain(set);
+            held(at + "resize PUBLIC", () -> x.resize(Check.PUBLIC, 2 * plain.n),
+                    () -> resize(Check.PUBLIC, 2 * plain.n));
+            held(at + "resize PACKET", () -> x.resize(Check.PACKET, plain.signature),
+                    () -> resize(Check.PACKET, plain.signature));
         }
     }
 

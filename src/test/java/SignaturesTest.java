@@ -19,17 +19,16 @@ public final class SignaturesTest {
         keys(set, plain, seeds, secret);
         nodes(set, plain, secret);
         junk(set, plain);
-        // A signature of a set with high trees takes PlainSlh seconds: one of them each will do.
-        if (set % 2 == 1 || set % 4 == 0) {
-            byte[] packet = sign(set, 0, plain, secret, NONE);
-            verify(set, 0, plain, secret, packet);
-        }
-        if (set % 2 == 1 || set % 4 == 2) {
-            byte[] packet = sign(set, -1, plain, secret, Check.bytes(plain.n, 91, 7));
-            verify(set, -1, plain, secret, packet);
-        }
         if (set % 2 == 1) {
+            verify(set, 0, plain, secret, sign(set, 0, plain, secret, NONE));
+            verify(set, -1, plain, secret, sign(set, -1, plain, secret, Check.bytes(plain.n, 91, 7)));
             longest(set, plain, secret);
+        } else {
+            signHigh(set, -(set / 2 % 2), plain, secret);
+        }
+        // PlainSlh takes many seconds for a signature with high trees, but few with this set.
+        if (set == 6) {
+            sign(set, 0, plain, secret, NONE);
         }
     }
 
@@ -55,8 +54,8 @@ public final class SignaturesTest {
         int p = plain.p;
         int top = plain.d - 1;
         int[][] places = {
-            {0, 0, 0, 0}, {0, 0, 0, (1 << p) - 1}, {top, 0, 0, 1}, {top, 0, p - 1, 1}, {top, 0, p, 0},
-            {0, 0, p, 0}, {top, 1, p, 0}, {1, 0x01020304, 1, (1 << (p - 1)) - 1}, {2, Integer.MAX_VALUE, 2, 1}
+            {0, 0, 0, 0}, {0, 0, 0, (1 << p) - 1}, {top, 0, 0, 1}, {top, 0, p, 0}, {top, 1, p - 2, 3},
+            {1, 0x01020304, 1, (1 << (p - 1)) - 1}, {2, Integer.MAX_VALUE, 2, 1}
         };
         for (int[] q : places) {
             String what = "13 slhNode " + set + " " + Arrays.toString(q);
@@ -114,6 +113,33 @@ public final class SignaturesTest {
         Check.due(what + " PUBLIC", () -> x.length(Check.PUBLIC), 0);
         Check.due(what + " SHARED", () -> x.length(Check.SHARED), 0);
         return want;
+    }
+
+    /**
+     * With high trees only R is held against PlainSlh; the rest must lead to the root, as verify,
+     * which junk tests, finds it.
+     */
+    private static void signHigh(int set, int how, PlainSlh plain, byte[] secret) {
+        byte[] r = how == 0 ? NONE : Check.bytes(plain.n, 91, 7);
+        HashTreeSigner x = ready(secret, r);
+        byte[] open = plain.publicOf(secret);
+        String what = "11 slhSign " + set + " " + how;
+        Check.put(x, Check.PUBLIC, open);
+        Check.due(what, () -> x.slhSign(set, how), plain.signature);
+        byte[] salt = plain.salt(secret, PlainSlh.signed(how, CONTEXT, MESSAGE), r);
+        for (int j = 0; j < plain.n; j += 8) {
+            int i = j;
+            Check.due(what + " R", () -> x.word(Check.PACKET, i), Check.word(salt, i));
+        }
+        Check.due("12 of " + what, () -> x.slhVerify(set, how) ? 1 : 0, 1);
+        Check.holds("12 of " + what, x, Check.SHARED, Arrays.copyOfRange(open, plain.n, 2 * plain.n));
+        Check.due("12 of " + what + ", the other way", () -> x.slhVerify(set, -1 - how) ? 1 : 0, 0);
+        for (int at = 0; at < plain.signature; at += plain.signature / 40) {
+            x.alter(Check.PACKET, at, 1);
+            Check.due("12 altered at " + at, () -> x.slhVerify(set, how) ? 1 : 0, 0);
+            x.alter(Check.PACKET, at, 1);
+        }
+        wrongLengths("12 of " + what, x, set, how, plain);
     }
 
     /** Signs anew, as a whole packet can't be fed within 512 calls, and alters what is verified. */
