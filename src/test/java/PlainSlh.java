@@ -94,9 +94,7 @@ final class PlainSlh {
 
     /** The last x of a signature of the right length. */
     byte[] last(byte[] open, byte[] x, byte[] packet) {
-        publicSeed = Arrays.copyOf(open, n);
-        byte[] root = Arrays.copyOfRange(open, n, 2 * n);
-        Choice c = new Choice(digest(Arrays.copyOf(packet, n), root, x));
+        Choice c = choice(open, x, Arrays.copyOf(packet, n));
         int at = n;
         int size = k * (1 + a) * n;
         byte[] value = forestRoot(c, Arrays.copyOfRange(packet, at, at + size));
@@ -110,8 +108,14 @@ final class PlainSlh {
         return value;
     }
 
+    /** What R and a message choose. */
+    Choice choice(byte[] open, byte[] x, byte[] salt) {
+        publicSeed = Arrays.copyOf(open, n);
+        return new Choice(digest(salt, Arrays.copyOfRange(open, n, 2 * n), x));
+    }
+
     /** What a digest chooses. */
-    private final class Choice {
+    final class Choice {
         final int[] leaves = new int[k];
         BigInteger tree;
         int leaf;
