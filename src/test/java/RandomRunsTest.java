@@ -1,6 +1,7 @@
 import java.util.Arrays;
 import java.util.Random;
 import java.util.function.LongSupplier;
+import java.util.stream.IntStream;
 
 /**
  * Runs of calls with numbers in and out of range, each answer held against a plain model of the
@@ -23,9 +24,7 @@ public final class RandomRunsTest {
     }
 
     public static void main(String[] args) {
-        for (int run = 0; run < RUNS; run++) {
-            new RandomRunsTest(run).run(run);
-        }
+        IntStream.range(0, RUNS).parallel().forEach(run -> new RandomRunsTest(run).run(run));
         Check.done();
     }
 

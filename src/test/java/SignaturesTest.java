@@ -26,10 +26,6 @@ public final class SignaturesTest {
         } else {
             signHigh(set, -(set / 2 % 2), plain, secret);
         }
-        // PlainSlh takes many seconds for a signature with high trees, but few with this set.
-        if (set == 6) {
-            sign(set, 0, plain, secret, NONE);
-        }
     }
 
     private static void keys(int set, PlainSlh plain, byte[] seeds, byte[] secret) {
@@ -116,8 +112,8 @@ public final class SignaturesTest {
     }
 
     /**
-     * With high trees only R is held against PlainSlh; the rest must lead to the root, as verify,
-     * which junk tests, finds it.
+     * With high trees only R is held against PlainSlh, which takes many seconds for the rest: that
+     * must lead to the root here, as verify, which junk tests, finds it; KnownAnswersTest reads it.
      */
     private static void signHigh(int set, int how, PlainSlh plain, byte[] secret) {
         byte[] r = how == 0 ? NONE : Check.bytes(plain.n, 91, 7);
